@@ -19,14 +19,14 @@ public final class ModelRuns {
 
     public static void main(String[] args) {
         for (int seed = 1; seed <= RUNS; seed++) {
-            new ModelRuns(seed).run(seed % 3);
+            new ModelRuns(seed).run(seed % 4);
         }
         Check.finish("ModelRuns");
     }
 
     private void run(int kind) {
         if (kind > 0) {
-            thinOut(kind == 1 ? 60 : 85);
+            thinOut(kind * 30);
         }
         while (calls < CALLS) {
             switch (random.nextInt(12)) {

@@ -294,6 +294,13 @@ public final class PromiseTests {
         Check.due("quiet moves anew", y.count(3), 0);
         Check.due("it goes on", y.count(4), 0);
         Check.due("moves stay", y.count(7), 4);
+        LoopCaptures z = new LoopCaptures();
+        performText(z, "a2-a3;a5-a4;a3-a2;a4-a5");
+        Check.due("seen", z.count(9), 2);
+        z.turn();
+        Check.due("positions that were are forgotten", z.count(9), 1);
+        z.turn();
+        Check.due("the one of before the turns too", z.count(9), 1);
     }
 
     // Promise 7
@@ -629,6 +636,9 @@ public final class PromiseTests {
         Check.due("captures of f6", x.point(35, 3), 0);
         Check.due("covers of e1, from which e2 shuts c2 out", x.point(4, 2), 0);
         Check.due("covers of f6", x.point(35, 2), 0);
+        LoopCaptures beside = board(at(1), at(11));
+        Check.due("quiet moves beside the corner", beside.point(1, 4), 5);
+        Check.due("quiet moves at the right edge", beside.point(11, 4), 5);
         LoopCaptures covered = board(at(12), at(4, 10, 0, 5));
         Check.due("covers of e1 by e2", covered.point(4, 2), 1);
         Check.due("covers of e2 by e1", covered.point(10, 2), 1);
@@ -711,6 +721,10 @@ public final class PromiseTests {
         wayIs("the other circuit", circuits, 8, 16, 1, 6, 1, 22, 1);
         circuits.setUp(12, 1);
         wayIs("over three loops", circuits, 8, 16, 3, 18, 0, 2, 0);
+        LoopCaptures fewest = board(at(8), at(13));
+        wayIs("the fewest places, ahead of the first circuit", fewest, 8, 13, 1, 3, 1, 22, 1);
+        fewest.setUp(12, 1);
+        wayIs("more places of the first circuit", fewest, 8, 13, 1, 5, 0, 2, 0);
         LoopCaptures places = board(at(13), at(7));
         // Up the column b2 is met without a loop; down the column it is met from the left.
         wayIs("the only one", places, 13, 7, 3, 20, 0, 21, 0);
@@ -794,10 +808,36 @@ public final class PromiseTests {
         LoopCaptures over = board(at(10), at());
         Check.due("behind the end", over.possible(0), NONE);
         Check.due("behind the end, negative", over.possible(-1), BAD_VALUE);
+        severalCaptures();
+        manyMoves();
         // Two ways to the same piece are one move.
         LoopCaptures twice = board(at(6), at(29));
         Check.due("one capture by two ways", twice.count(5), 1);
         Check.due("then quiet moves", twice.possible(1), 600);
+    }
+
+    /** The ways of e2 meet f5 first, then e1: the captures are in the order of points. */
+    private static void severalCaptures() {
+        LoopCaptures x = board(at(10), at(6, 4, 29));
+        int[] want = {1004, 1029, 1003, 1005};
+        for (int rank = 0; rank < want.length; rank++) {
+            Check.due("several captures: possible(" + rank + ")", x.possible(rank), want[rank]);
+        }
+        Check.due("several captures", x.count(5), 2);
+        LoopCaptures y = board(at(16), at(11, 2, 29, 33));
+        int[] wantOfFour = {1602, 1611, 1629, 1633, 1609};
+        for (int rank = 0; rank < wantOfFour.length; rank++) {
+            Check.due("four captures: possible(" + rank + ")", y.possible(rank), wantOfFour[rank]);
+        }
+        Check.due("four captures", y.count(5), 4);
+    }
+
+    /** Every other row full of pieces that can step up and down. */
+    private static void manyMoves() {
+        LoopCaptures x = board(at(0, 1, 2, 3, 4, 5, 12, 13, 14, 15, 16, 17, 24, 25, 26, 27, 28, 29), at(35));
+        Check.due("many quiet moves", x.count(6), 78);
+        Check.due("the last of many", x.possible(77), 2934);
+        Check.due("no more of many", x.possible(78), NONE);
     }
 
     // Promise 21
@@ -942,5 +982,8 @@ public final class PromiseTests {
         // The position of now is one of the latest 60, so that the very first is not looked at.
         Check.due("seen behind 60", x.count(9), 15);
         Check.due("drawn", x.count(4), 3);
+        x.undo();
+        Check.due("another last quiet move", x.move(25, 19), 60);
+        Check.due("which was not seen before", x.count(9), 1);
     }
 }
