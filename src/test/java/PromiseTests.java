@@ -816,7 +816,7 @@ public final class PromiseTests {
         Check.due("then quiet moves", twice.possible(1), 600);
     }
 
-    /** The ways of e2 meet f5 first, then e1: the captures are in the order of points. */
+    /** The goings from e3 meet f5, f2, d6 and c1 one after the other; the points order the captures. */
     private static void severalCaptures() {
         LoopCaptures x = board(at(10), at(6, 4, 29));
         int[] want = {1004, 1029, 1003, 1005};
