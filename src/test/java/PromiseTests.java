@@ -1,12 +1,5 @@
 /** For each promise ordinary inputs, the edges that the document names, and wrong inputs. */
-public final class PromiseTests {
-    private static final int UNKNOWN = -101;
-    private static final int BAD_VALUE = -102;
-    private static final int FULL = -103;
-    private static final int NOT_POSSIBLE = -104;
-    private static final int NONE = -105;
-    private static final int[] WRONG_POINTS = {-1, 36, Integer.MIN_VALUE, Integer.MAX_VALUE};
-
+public final class PromiseTests extends Games {
     private PromiseTests() {
     }
 
@@ -48,43 +41,6 @@ public final class PromiseTests {
         positions();
         latestSixtyPositions();
         Check.finish("PromiseTests");
-    }
-
-    /** A board with nothing but these pieces, the side 1 to move. */
-    private static LoopCaptures board(int[] ones, int[] twos) {
-        LoopCaptures x = new LoopCaptures();
-        for (int p = 0; p < 36; p++) {
-            x.setUp(p, 0);
-        }
-        for (int p : ones) {
-            x.setUp(p, 1);
-        }
-        for (int p : twos) {
-            x.setUp(p, 2);
-        }
-        return x;
-    }
-
-    private static int[] at(int... points) {
-        return points;
-    }
-
-    private static void typeAll(LoopCaptures x, String text) {
-        for (int i = 0; i < text.length(); i++) {
-            x.type(text.charAt(i));
-        }
-    }
-
-    private static int performText(LoopCaptures x, String text) {
-        x.clearText();
-        typeAll(x, text);
-        return x.perform();
-    }
-
-    private static void counts(String name, LoopCaptures x, int... want) {
-        for (int i = 0; i < want.length; i++) {
-            Check.due(name + ": count(" + i + ")", x.count(i), want[i]);
-        }
     }
 
     private static void constants() {
@@ -669,12 +625,6 @@ public final class PromiseTests {
     }
 
     // Promise 17
-
-    private static void wayIs(String name, LoopCaptures x, int from, int to, int... want) {
-        for (int what = 0; what < want.length; what++) {
-            Check.due(name + ": way(" + from + ", " + to + ", " + what + ")", x.way(from, to, what), want[what]);
-        }
-    }
 
     private static void way() {
         LoopCaptures x = board(at(10), at(4, 0));
