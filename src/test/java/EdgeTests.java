@@ -292,6 +292,11 @@ public final class EdgeTests extends Games {
         Check.due("positions", x.count(9), 1);
         x.turn();
         Check.due("positions, the side as it was", x.count(9), 1);
+        LoopCaptures y = new LoopCaptures();
+        y.move(6, 12);
+        y.turn();
+        y.turn();
+        Check.due("positions, behind one move", y.count(9), 1);
     }
 
     private static void beginReturns() {

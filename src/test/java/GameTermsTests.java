@@ -25,6 +25,7 @@ public final class GameTermsTests extends Games {
         sinceTheLatestCapture();
         setUpForgets();
         theLatestSixty();
+        withinTheLatestSixty();
         positionsAreNoEnd();
         theWorth();
         theDepthZero();
@@ -165,18 +166,10 @@ public final class GameTermsTests extends Games {
         Check.due("it goes on", x.count(4), 0);
     }
 
-    /** At e2 there is a piece that could capture e1, were it no end. */
-    private static LoopCaptures drawnWithCaptures() {
-        LoopCaptures x = board(at(10, 0), at(4, 24));
-        x.setLimit(4);
-        performText(x, "a1-a2;a5-a4;a2-a1;a4-a5");
-        return x;
-    }
-
     private static void behindTheEndNothing() {
         Check.sentence("Behind the end no move is possible.");
         List<Supplier<LoopCaptures>> ends = List.of(
-            Games::drawn, GameTermsTests::drawnWithCaptures,
+            Games::drawn, Games::drawnWithCaptures,
             () -> board(at(10, 4), at()), () -> board(at(), at(10, 4)), () -> board(at(), at()));
         int[] results = {3, 3, 1, 2, 3};
         for (int i = 0; i < results.length; i++) {
@@ -344,6 +337,23 @@ public final class GameTermsTests extends Games {
         x.undo();
         Check.due("60 positions again", x.move(25, 19), 60);
         Check.due("a new one", x.count(9), 1);
+    }
+
+    private static void withinTheLatestSixty() {
+        Check.sentence("(At most the latest 60 are looked at.)", "and no fewer");
+        LoopCaptures x = new LoopCaptures();
+        x.setLimit(60);
+        Check.due("two moves", performText(x, "f2-f3;f5-f4"), 2);
+        Check.due("around to the position behind them", performText(x, "a2-a3;a5-a4;a3-b3;a4-b4;b3-a2;b4-a5"), 6);
+        Check.due("there behind 8", x.count(9), 2);
+        x.clearText();
+        typeAll(x, TO_AND_FRO);
+        for (int times = 3; times <= 15; times++) {
+            Check.due("four more", x.perform(), 4);
+            Check.due("there again", x.count(9), times);
+        }
+        // The one behind two moves is the 59th, counted from now.
+        Check.due("behind 60", x.count(3), 60);
     }
 
     private static void positionsAreNoEnd() {

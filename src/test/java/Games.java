@@ -99,6 +99,14 @@ abstract class Games {
         return x;
     }
 
+    /** e2 could capture e1 and a5, and e1 could capture e2, were the game not drawn. */
+    static LoopCaptures drawnWithCaptures() {
+        LoopCaptures x = board(at(10, 0), at(4, 24));
+        x.setLimit(4);
+        performText(x, "a1-a2;a5-a4;a2-a1;a4-a5");
+        return x;
+    }
+
     /** The side that is to move has a piece that can't move; it is no end. */
     static LoopCaptures shutIn() {
         return board(at(0), at(1, 6, 7));

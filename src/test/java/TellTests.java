@@ -15,6 +15,7 @@ public final class TellTests extends Games {
         capturesOfAPoint();
         capturesIfItsSideWasToMove();
         quietMovesOfAPoint();
+        aPointBehindTheEnd();
         wayBounds();
         wayNumbers();
         wayWhicheverSide();
@@ -34,6 +35,7 @@ public final class TellTests extends Games {
         countQuietMoves();
         countResults();
         countPossibleMoves();
+        countVeryManyMoves();
         countMovesMade();
         countPositionsAndSetting();
         countThreatened();
@@ -89,6 +91,8 @@ public final class TellTests extends Games {
         Check.due("one way is shut by an own piece", x.point(8, 1), 3);
         Check.due("what stands ahead is threatened", x.point(11, 1), 1);
         Check.due("a corner", board(at(0), at(1, 6, 7, 10)).point(0, 1), 0);
+        Check.due("by the last points of the board", board(at(34, 31), at(24, 29)).point(34, 1), 1);
+        Check.due("by the first points of the board", board(at(1, 4), at(6, 11)).point(4, 1), 1);
     }
 
     private static void threatsIfTheyWereToMove() {
@@ -120,6 +124,7 @@ public final class TellTests extends Games {
         Check.due("which is covered by both", z.point(11, 2), 2);
         LoopCaptures alone = board(at(7), at(0));
         Check.due("a piece does not cover itself", alone.point(7, 2), 0);
+        Check.due("by the last points of the board", board(at(34, 29, 0), at(35)).point(34, 2), 1);
         LoopCaptures two = board(at(0), at(10, 4));
         Check.due("of the side that is not to move", two.point(10, 2), 1);
     }
@@ -174,6 +179,17 @@ public final class TellTests extends Games {
         Check.due("at first, the second row", new LoopCaptures().point(8, 4), 3);
     }
 
+    private static void aPointBehindTheEnd() {
+        Check.sentence("could capture it, if they were to move", "as the board allows it, behind the end too");
+        LoopCaptures x = drawnWithCaptures();
+        Check.due("drawn", x.count(4), 3);
+        Check.due("threats", x.point(4, 1), 1);
+        Check.due("captures", x.point(10, 3), 2);
+        Check.due("quiet moves", x.point(0, 4), 3);
+        Check.due("threatened pieces", x.count(11), 1);
+        Check.due("quiet moves behind a win", board(at(0), at()).point(0, 4), 3);
+    }
+
     // Promise 17: way
 
     private static void wayBounds() {
@@ -216,9 +232,7 @@ public final class TellTests extends Games {
 
     private static void wayBehindTheEnd() {
         Check.sentence("and whether the game is over or not.");
-        LoopCaptures x = board(at(10, 0), at(4, 24));
-        x.setLimit(4);
-        performText(x, "a1-a2;a5-a4;a2-a1;a4-a5");
+        LoopCaptures x = drawnWithCaptures();
         Check.due("drawn", x.count(4), 3);
         wayIs("of the side 1", x, 10, 4, 1, 2, 0, 4, 1);
         wayIs("of the side 2", x, 4, 10, 1, 2, 0, 6, 0);
@@ -428,6 +442,28 @@ public final class TellTests extends Games {
         Check.due("captures behind the end", board(at(10, 4), at()).count(5), 0);
         Check.due("quiet moves behind the end", drawn().count(6), 0);
         Check.due("shut in", shutIn().count(6), 0);
+        LoopCaptures y = board(at(10), at(4, 30));
+        Check.due("a capture", y.count(5), 1);
+        y.capture(10, 4);
+        y.turn();
+        y.setUp(4, 0);
+        y.setUp(0, 1);
+        Check.due("captures that are no more", y.count(5), 0);
+        Check.due("quiet moves behind them", y.count(6), 3);
+    }
+
+    private static void countVeryManyMoves() {
+        Check.sentence("6 for quiet moves that are possible", "very many");
+        LoopCaptures x = new LoopCaptures();
+        for (int p = 0; p < 36; p++) {
+            x.setUp(p, p / 6 % 2 == 0 ? 1 : 0);
+        }
+        x.setUp(35, 2);
+        // Three rows of six, each beside one or two rows that are empty but for f6.
+        Check.due("quiet moves", x.count(6), 78);
+        Check.due("the last one", x.possible(77), 2934);
+        Check.due("no more", x.possible(78), NONE);
+        Check.due("best(1)", x.best(1), 6);
     }
 
     private static void countMovesMade() {
@@ -478,6 +514,7 @@ public final class TellTests extends Games {
         Check.due("four by one", x.count(11), 4);
         x.setUp(11, 1);
         Check.due("one of them is so by another piece", x.count(11), 4);
+        Check.due("at the last points of the board", board(at(34, 31, 0), at(29, 24)).count(11), 2);
         Check.due("none at first", new LoopCaptures().count(11), 0);
         Check.due("none of no piece", board(at(), at()).count(11), 0);
     }
