@@ -132,7 +132,7 @@ abstract class Games {
         }
     }
 
-    /** The games are undone, restored and performed for it, in 428 calls each. */
+    /** The games are undone, restored and performed for it, in 423 calls each. */
     static void alike(String name, LoopCaptures got, LoopCaptures want) {
         sameTold(name, told(got), told(want));
         for (int i = 1; i <= 5; i++) {
