@@ -451,11 +451,12 @@ public final class LoopCaptures {
         void go(Board board, int spot, int direction) {
             met = NOWHERE;
             loops = 0;
+            steps = 0;
             int own = circuits.pointAt(spot);
             int place = spot % PLACES;
             int start = spot - place;
             int placeAtLoop = direction > 0 ? WIDTH - 1 : 0;
-            for (steps = 1; steps < PLACES; steps++) {
+            for (int step = 1; step < PLACES; step++) {
                 if (place % WIDTH == placeAtLoop) {
                     loops++;
                 }
@@ -463,6 +464,7 @@ public final class LoopCaptures {
                 int point = circuits.pointAt(start + place);
                 if (point != own && board.at(point) != NOTHING) {
                     met = point;
+                    steps = step;
                     return;
                 }
             }
@@ -879,16 +881,12 @@ public final class LoopCaptures {
             }
             MoveList list = depth == 1 ? movesAtOne : movesAtTwo;
             rules.listMoves(board, list);
-            int quiet = board.quietMoves();
+            int moves = list.size();
             int greatest = BELOW_ALL;
             int first = NOWHERE;
-            for (int rank = 0; rank < list.size(); rank++) {
+            for (int rank = 0; rank < moves; rank++) {
                 int move = list.get(rank);
-                int from = move / FROM_FACTOR;
-                int to = move % FROM_FACTOR;
-                int taken = board.make(from, to);
-                int worth = -search(depth - 1);
-                board.takeBack(from, to, taken, quiet);
+                int worth = -searchBehind(move, depth - 1);
                 if (worth > greatest) {
                     greatest = worth;
                     first = move;
@@ -896,6 +894,17 @@ public final class LoopCaptures {
             }
             chosen = first;
             return first == NOWHERE ? board.worth() : greatest;
+        }
+
+        /** Searches behind a move, which is taken back then. */
+        private int searchBehind(int move, int depth) {
+            int from = move / FROM_FACTOR;
+            int to = move % FROM_FACTOR;
+            int quiet = board.quietMoves();
+            int taken = board.make(from, to);
+            int worth = search(depth);
+            board.takeBack(from, to, taken, quiet);
+            return worth;
         }
     }
 
